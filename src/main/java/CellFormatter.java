@@ -705,16 +705,13 @@ public final class CellFormatter {
                     continue;
                 }
                 int letter = tokens.valueAt(i);
-                if (letter == 'm' && tokens.detailAt(i) <= 2 && standsForMinute(tokens, i)) {
+                boolean amongTime = letterBefore(tokens, i) == 'h' || letterBehind(tokens, i) == 's';
+                if (letter == 'm' && tokens.detailAt(i) <= 2 && amongTime) {
                     tokens.setValue(i, MINUTE);
                 } else if (letter == 'y' || letter == 'm' || letter == 'd') {
                     namesDay = true;
                 }
             }
-        }
-
-        private boolean standsForMinute(Tokens tokens, int at) {
-            return letterBefore(tokens, at) == 'h' || letterBehind(tokens, at) == 's';
         }
 
         private int letterBefore(Tokens tokens, int at) {
@@ -1093,27 +1090,32 @@ public final class CellFormatter {
         }
 
         private void writeField(int letter, int run, boolean twelveHours) {
-            if (letter == 'y') {
-                out.addNumber(run == 2 ? days.year % 100 : days.year, run);
+            if (letter == 'y' || run < NAME_LENGTH) {
+                out.addNumber(numberOf(letter, run, twelveHours), run);
             } else if (letter == 'm') {
-                writeNamed(MONTHS, days.month, run);
-            } else if (letter == 'd') {
-                writeNamed(WEEKDAYS, run == NAME_LENGTH ? days.weekday : days.day, run);
-            } else if (letter == 'h') {
-                out.addNumber(twelveHours ? (hour() + 11) % 12 + 1 : hour(), run);
-            } else if (letter == MINUTE) {
-                out.addNumber(seconds / 60 % 60, run);
+                writeName(MONTHS, days.month);
             } else {
-                out.addNumber(seconds % 60, run);
+                writeName(WEEKDAYS, days.weekday);
             }
         }
 
-        /** Three letters show a name, one or two the number. */
-        private void writeNamed(String names, int number, int run) {
-            if (run < NAME_LENGTH) {
-                out.addNumber(number, run);
-                return;
+        private int numberOf(int letter, int run, boolean twelveHours) {
+            if (letter == 'y') {
+                return run == 2 ? days.year % 100 : days.year;
             }
+            if (letter == 'm') {
+                return days.month;
+            }
+            if (letter == 'd') {
+                return days.day;
+            }
+            if (letter == 'h') {
+                return twelveHours ? (hour() + 11) % 12 + 1 : hour();
+            }
+            return letter == MINUTE ? seconds / 60 % 60 : seconds % 60;
+        }
+
+        private void writeName(String names, int number) {
             int start = (number - 1) * NAME_LENGTH;
             for (int i = start; i < start + NAME_LENGTH; i++) {
                 if (i >= 0 && i < names.length()) {

@@ -105,10 +105,15 @@ public final class CalendarTest {
         };
         CellFormatter x = new CellFormatter();
         for (int[] day : wrong) {
+            String name = day[0] + " " + day[1] + " " + day[2];
             x.calendar(false);
-            Check.due("1900: " + day[0] + " " + day[1] + " " + day[2], x.serial(day[0], day[1], day[2]), CellFormatter.BAD);
+            Check.due("1900: " + name, x.serial(day[0], day[1], day[2]), CellFormatter.BAD);
             x.calendar(true);
-            Check.due("1904: " + day[0] + " " + day[1] + " " + day[2], x.serial(day[0], day[1], day[2]), CellFormatter.BAD);
+            Check.due("1904: " + name, x.serial(day[0], day[1], day[2]), CellFormatter.BAD);
+        }
+        for (int month = 1; month <= 12; month++) {
+            int length = LocalDate.of(2025, month, 1).lengthOfMonth();
+            Check.due("behind month " + month, x.serial(2025, month, length + 1), CellFormatter.BAD);
         }
         Check.due("1904: 31 December 1903", x.serial(1903, 12, 31), CellFormatter.BAD);
         Check.due("1904: 1 January 1904", x.serial(1904, 1, 1), 0);

@@ -8,7 +8,8 @@ public final class OracleTest {
     private static final String[] NUMBER = {"0", "#", "?", "0", "#", "?", "0", ",", "-", "\"b\"", "%", "0", "#", "?"};
     private static final String[] FIELDS = {"[h]", "[m]", "[s]", "yy", "yyyy", "m", "mm", "m", "mm", "mmm", "d", "dd",
         "ddd", "h", "hh", "s", "ss", "AM/PM", " ", ":", "/", "\"x\"", " "};
-    private static final String[] CONDITIONS = {"", "", "", "[<5]", "[>=-10]", "[<>0]", "[=1]", "[<=1000]", "[>-999999]"};
+    private static final String[] CONDITIONS =
+        {"", "", "", "[<5]", "[>=-10]", "[<>0]", "[=1]", "[<=1000]", "[>-999999]"};
     private static final int MOST_CODE = 40;
 
     private final Random random = new Random(20261115);

@@ -145,6 +145,14 @@ public final class ShowTest {
         Check.shows("0.00", "1.004999", "1.00");
         Check.shows("0.000000", "1.000001", "1.000001");
         Check.shows("0.00000000", "1.000001", "1.00000100");
+        for (int decimals = 0; decimals <= 5; decimals++) {
+            String kept = decimals == 0 ? "0" : "0." + "0".repeat(decimals);
+            String up = decimals == 0 ? "8" : "7." + "0".repeat(decimals - 1) + "1";
+            String half = decimals == 0 ? "7.5" : "7." + "0".repeat(decimals) + "5";
+            String less = half.substring(0, half.length() - 1) + "4";
+            Check.shows(kept, half, up);
+            Check.shows(kept, less, kept.replaceFirst("0", "7"));
+        }
         Check.shows("0", "999.5", "1000");
         Check.shows("0.00", "9.995", "10.00");
         Check.shows("0.", "9.5", "10.");
@@ -327,6 +335,10 @@ public final class ShowTest {
         Check.shows("[m] m", moment, "88017 3");
         Check.shows("m [m]", moment, "3 88017");
         Check.shows("h mm d mm", moment, "2 57 1 03");
+        Check.shows("hm", moment, "257");
+        Check.shows("[h]mm", moment, "146657");
+        Check.shows("ms", moment, "5747");
+        Check.shows("h\"\"m", moment, "257");
         Check.shows("h;m", moment, "2");
         Check.shows("[<0]h;m", moment, "3");
         Check.shows("m:s", "1.000012", "0:1");
