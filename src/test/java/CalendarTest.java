@@ -1,38 +1,77 @@
 import java.time.LocalDate;
 import java.time.temporal.ChronoUnit;
 
-/** Promises 7, 11 and 12: calendar, date, serial. */
+/** The sentences of the terms on the two calendars; a test for each. Promises 7, 8, 11 and 12. */
 public final class CalendarTest {
     private static final int LAST_1900 = 2958465;
     private static final int LAST_1904 = 2957003;
 
     public static void main(String[] args) {
-        calendarChangesFromNowOn();
+        firstDaysOf1900();
+        weekdaysOf1900();
         everyDay(false);
+        firstDaysOf1904();
         everyDay(true);
-        theDayThatNeverWas();
-        wrongSerials();
-        wrongDays();
+        lastDays();
+        noDaysBeyond();
         Check.end();
     }
 
-    private static void calendarChangesFromNowOn() {
-        CellFormatter x = Check.compiled("yyyy-mm-dd ddd");
-        Check.due("1900 at first", Check.shown(x, 1000000), "1900-01-01 Sun");
-        x.calendar(true);
-        Check.due("what was shown stays", Check.text(x), "1900-01-01 Sun");
-        Check.due("1904", Check.shown(x, 1000000), "1904-01-02 Sat");
-        Check.due("1904: 0", Check.shown(x, 0), "1904-01-01 Fri");
-        x.calendar(true);
-        Check.due("1904 again", x.date(0, 0), 1904);
-        x.calendar(false);
-        Check.due("1900 again", x.date(0, 0), CellFormatter.BAD);
-        Check.due("1900: 0", Check.shown(x, 0), null);
-        Check.due("the code stays compiled", x.sections(), 1);
+    private static void isDay(CellFormatter x, int serial, int year, int month, int day) {
+        Check.due("year of " + serial, x.date(serial, 0), year);
+        Check.due("month of " + serial, x.date(serial, 1), month);
+        Check.due("day of " + serial, x.date(serial, 2), day);
+        Check.due("serial of " + year + " " + month + " " + day, x.serial(year, month, day), serial);
+        String text = String.format("%04d/%02d/%02d", year, month, day);
+        Check.due("text of " + serial, Check.shown(x, serial * 1000000L), text);
+    }
+
+    private static CellFormatter showingDays(boolean is1904) {
+        CellFormatter x = Check.compiled("yyyy/mm/dd");
+        x.calendar(is1904);
+        return x;
+    }
+
+    private static void firstDaysOf1900() {
+        Check.sentence("8, 11 and 12", "1900: serials 1 .. 59 are the days from 1 January to 28 February 1900, "
+            + "60 is 29 February 1900 (which never was), 61 is 1 March 1900, and so on");
+        CellFormatter x = showingDays(false);
+        isDay(x, 1, 1900, 1, 1);
+        isDay(x, 31, 1900, 1, 31);
+        isDay(x, 32, 1900, 2, 1);
+        isDay(x, 59, 1900, 2, 28);
+        isDay(x, 60, 1900, 2, 29);
+        isDay(x, 61, 1900, 3, 1);
+        isDay(x, 366, 1900, 12, 31);
+        isDay(x, 367, 1901, 1, 1);
+        isDay(x, 1520, 1904, 2, 28);
+        isDay(x, 1521, 1904, 2, 29);
+        isDay(x, 1522, 1904, 3, 1);
+        x = showingDays(false);
+        isDay(x, 36585, 2000, 2, 29);
+        isDay(x, 36586, 2000, 3, 1);
+        isDay(x, 73109, 2100, 2, 28);
+        isDay(x, 73110, 2100, 3, 1);
+        Check.due("before the first", x.date(0, 0), CellFormatter.BAD);
+    }
+
+    private static void weekdaysOf1900() {
+        Check.sentence("8 and 11", "the weekday of serial n, 1 Sunday to 7 Saturday, "
+            + "is n - 7 k for the whole k that makes it 1 .. 7.");
+        CellFormatter x = new CellFormatter();
+        int[] serials = {1, 2, 6, 7, 8, 14, 15, 59, 60, 61, 63, 64, LAST_1900};
+        int[] weekdays = {1, 2, 6, 7, 1, 7, 1, 3, 4, 5, 7, 1, 6};
+        for (int i = 0; i < serials.length; i++) {
+            Check.due("weekday of " + serials[i], x.date(serials[i], 3), weekdays[i]);
+        }
+        Check.shows("ddd", "59", "Tue");
+        Check.shows("ddd", "60", "Wed");
+        Check.shows("ddd", "61", "Thu");
     }
 
     /** Compares every day of a calendar with the Java library, a new object for each 100 days. */
     private static void everyDay(boolean is1904) {
+        Check.sentence("11 and 12", "SERIALS are numbers of days. THE CALENDAR is one of two.");
         LocalDate start = LocalDate.of(is1904 ? 1904 : 1900, 1, 1);
         LocalDate last = LocalDate.of(9999, 12, 31);
         int count = (int) ChronoUnit.DAYS.between(start, last) + 1;
@@ -56,72 +95,51 @@ public final class CalendarTest {
         Check.due("the last day", is1904 ? count - 1 : count + 1, is1904 ? LAST_1904 : LAST_1900);
     }
 
-    private static void theDayThatNeverWas() {
-        CellFormatter x = new CellFormatter();
-        Check.due("date(60, 0)", x.date(60, 0), 1900);
-        Check.due("date(60, 1)", x.date(60, 1), 2);
-        Check.due("date(60, 2)", x.date(60, 2), 29);
-        Check.due("date(60, 3)", x.date(60, 3), 4);
-        Check.due("date(1, 3)", x.date(1, 3), 1);
-        Check.due("date(7, 3)", x.date(7, 3), 7);
-        Check.due("serial(1900, 2, 28)", x.serial(1900, 2, 28), 59);
-        Check.due("serial(1900, 2, 29)", x.serial(1900, 2, 29), 60);
-        Check.due("serial(1900, 3, 1)", x.serial(1900, 3, 1), 61);
-        Check.due("serial(1900, 2, 30)", x.serial(1900, 2, 30), CellFormatter.BAD);
-        x.calendar(true);
-        Check.due("1904: serial(1900, 2, 29)", x.serial(1900, 2, 29), CellFormatter.BAD);
-        Check.due("1904: date(60, 2)", x.date(60, 2), 1);
-        Check.due("1904: date(0, 3)", x.date(0, 3), 6);
+    private static void firstDaysOf1904() {
+        Check.sentence("8, 11 and 12", "1904: serial 0 is 1 January 1904, a Friday (6), and so on.");
+        CellFormatter x = showingDays(true);
+        isDay(x, 0, 1904, 1, 1);
+        isDay(x, 1, 1904, 1, 2);
+        isDay(x, 30, 1904, 1, 31);
+        isDay(x, 31, 1904, 2, 1);
+        isDay(x, 58, 1904, 2, 28);
+        isDay(x, 59, 1904, 2, 29);
+        isDay(x, 60, 1904, 3, 1);
+        isDay(x, 61, 1904, 3, 2);
+        isDay(x, 365, 1904, 12, 31);
+        isDay(x, 366, 1905, 1, 1);
+        isDay(x, 35123, 2000, 2, 29);
+        int[] weekdays = {6, 7, 1, 2, 3, 4, 5, 6};
+        for (int serial = 0; serial < weekdays.length; serial++) {
+            Check.due("weekday of " + serial, x.date(serial, 3), weekdays[serial]);
+        }
+        Check.shows1904("ddd", "0", "Fri");
+        Check.shows1904("ddd", "1", "Sat");
+        Check.shows1904("ddd", "2", "Sun");
+        Check.due("before the first", x.date(-1, 0), CellFormatter.BAD);
     }
 
-    private static void wrongSerials() {
-        int[] parts = {0, 1, 2, 3};
-        for (int part : parts) {
-            CellFormatter x = new CellFormatter();
-            Check.due("1900: 0", x.date(0, part), CellFormatter.BAD);
-            Check.due("1900: -1", x.date(-1, part), CellFormatter.BAD);
-            Check.due("1900: behind the last", x.date(LAST_1900 + 1, part), CellFormatter.BAD);
-            Check.due("1900: least", x.date(Integer.MIN_VALUE, part), CellFormatter.BAD);
-            Check.due("1900: greatest", x.date(Integer.MAX_VALUE, part), CellFormatter.BAD);
-            x.calendar(true);
-            Check.due("1904: -1", x.date(-1, part), CellFormatter.BAD);
-            Check.due("1904: behind the last", x.date(LAST_1904 + 1, part), CellFormatter.BAD);
-            Check.due("1904: least", x.date(Integer.MIN_VALUE, part), CellFormatter.BAD);
-            Check.due("1904: greatest", x.date(Integer.MAX_VALUE, part), CellFormatter.BAD);
-        }
-        CellFormatter x = new CellFormatter();
-        int[] wrongParts = {-1, 4, Integer.MIN_VALUE, Integer.MAX_VALUE};
-        for (int part : wrongParts) {
-            Check.due("part " + part, x.date(1, part), CellFormatter.BAD);
-        }
+    private static void lastDays() {
+        Check.sentence("8, 11 and 12", "Both go up to 31 December 9999.");
+        isDay(showingDays(false), LAST_1900, 9999, 12, 31);
+        isDay(showingDays(true), LAST_1904, 9999, 12, 31);
+        Check.shows("ddd", "" + LAST_1900, "Fri");
+        Check.shows1904("ddd", "" + LAST_1904, "Fri");
     }
 
-    private static void wrongDays() {
-        int[][] wrong = {
-            {1899, 12, 31}, {10000, 1, 1}, {2000, 0, 1}, {2000, 13, 1}, {2000, 1, 0}, {2000, 1, 32},
-            {2001, 2, 29}, {2000, 2, 30}, {2100, 2, 29}, {2000, 4, 31}, {2000, -1, 1}, {2000, 1, -1}, {0, 0, 0},
-            {1904, 2, 30}, {Integer.MIN_VALUE, 1, 1}, {Integer.MAX_VALUE, 1, 1}, {2000, Integer.MIN_VALUE, 1},
-            {2000, Integer.MAX_VALUE, 1}, {2000, 1, Integer.MIN_VALUE}, {2000, 1, Integer.MAX_VALUE}
-        };
-        CellFormatter x = new CellFormatter();
-        for (int[] day : wrong) {
-            String name = day[0] + " " + day[1] + " " + day[2];
+    private static void noDaysBeyond() {
+        Check.sentence("8, 11 and 12", "Both go up to 31 December 9999.");
+        CellFormatter x = showingDays(false);
+        for (int part = 0; part < 4; part++) {
             x.calendar(false);
-            Check.due("1900: " + name, x.serial(day[0], day[1], day[2]), CellFormatter.BAD);
+            Check.due("1900: behind the last, part " + part, x.date(LAST_1900 + 1, part), CellFormatter.BAD);
             x.calendar(true);
-            Check.due("1904: " + name, x.serial(day[0], day[1], day[2]), CellFormatter.BAD);
+            Check.due("1904: behind the last, part " + part, x.date(LAST_1904 + 1, part), CellFormatter.BAD);
         }
-        for (int month = 1; month <= 12; month++) {
-            int length = LocalDate.of(2025, month, 1).lengthOfMonth();
-            Check.due("behind month " + month, x.serial(2025, month, length + 1), CellFormatter.BAD);
-        }
-        Check.due("1904: 31 December 1903", x.serial(1903, 12, 31), CellFormatter.BAD);
-        Check.due("1904: 1 January 1904", x.serial(1904, 1, 1), 0);
-        Check.due("1904: 29 February 1904", x.serial(1904, 2, 29), 59);
-        Check.due("1904: the last", x.serial(9999, 12, 31), LAST_1904);
+        Check.due("1904: 1 January 10000", x.serial(10000, 1, 1), CellFormatter.BAD);
         x.calendar(false);
-        Check.due("1900: the first", x.serial(1900, 1, 1), 1);
-        Check.due("1900: the last", x.serial(9999, 12, 31), LAST_1900);
-        Check.due("1900: 29 February 2000", x.serial(2000, 2, 29), 36585);
+        Check.due("1900: 1 January 10000", x.serial(10000, 1, 1), CellFormatter.BAD);
+        Check.notShown("yyyy", "" + (LAST_1900 + 1));
+        Check.notShown1904("yyyy", "" + (LAST_1904 + 1));
     }
 }

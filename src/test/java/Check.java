@@ -3,15 +3,23 @@ final class Check {
     private static final int MOST_LINES = 50;
     private static int wrong = 0;
     private static int made = 0;
+    private static int sentences = 0;
+    private static String held = "";
 
     private Check() {
+    }
+
+    /** The answers from here on hold this sentence of the document; a wrong one is told with it. */
+    static void sentence(String promises, String words) {
+        sentences++;
+        held = "[promise " + promises + ": " + words + "] ";
     }
 
     /** Prints the first wrong answers only, since one fault may give thousands. */
     private static void report(String line) {
         wrong++;
         if (wrong <= MOST_LINES) {
-            System.out.println(line);
+            System.out.println(held + line);
         }
     }
 
@@ -39,6 +47,13 @@ final class Check {
         }
     }
 
+    /** Puts another code in the place of the one that an object has; answers what compile answers. */
+    static int recompile(CellFormatter x, String code) {
+        x.erase();
+        feedAll(x, code);
+        return x.compile();
+    }
+
     /** An object with that code, compiled. */
     static CellFormatter compiled(String code) {
         CellFormatter x = new CellFormatter();
@@ -50,16 +65,28 @@ final class Check {
 
     /** What compile answers for that code on a new object. */
     static int compile(String code) {
-        CellFormatter x = new CellFormatter();
-        feedAll(x, code);
-        return x.compile();
+        return recompile(new CellFormatter(), code);
+    }
+
+    static void compiles(String code, int sections) {
+        due("compile of " + code, compile(code), sections);
+    }
+
+    /** No token begins at that place of the code. */
+    static void fault(String code, int place) {
+        due("compile of " + code, compile(code), -100 - place);
+    }
+
+    /** That section is the first of the code that is not well made. */
+    static void illMade(String code, int s) {
+        due("compile of " + code, compile(code), -201 - s);
     }
 
     /** The characters shown last. */
     static String text(CellFormatter x) {
         StringBuilder text = new StringBuilder();
-        for (int i = 0; x.charAt(i) != 0; i++) {
-            text.append(x.charAt(i));
+        for (char c = x.charAt(0); c != 0; c = x.charAt(text.length())) {
+            text.append(c);
         }
         return text.toString();
     }
@@ -86,8 +113,24 @@ final class Check {
         due("\"" + code + "\" of " + number, shown(compiled(code), units(number)), want);
     }
 
+    static void notShown(String code, String number) {
+        shows(code, number, null);
+    }
+
+    /** As shows, in the calendar 1904. */
+    static void shows1904(String code, String number, String want) {
+        CellFormatter x = compiled(code);
+        x.calendar(true);
+        due("1904: \"" + code + "\" of " + number, shown(x, units(number)), want);
+    }
+
+    static void notShown1904(String code, String number) {
+        shows1904(code, number, null);
+    }
+
     static void end() {
-        System.out.println(made + " answers, " + wrong + " of them not as due");
+        String of = sentences == 0 ? "" : " for " + sentences + " sentences";
+        System.out.println(made + " answers" + of + ", " + wrong + " of them not as due");
         if (wrong != 0) {
             System.exit(1);
         }

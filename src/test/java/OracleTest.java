@@ -18,7 +18,7 @@ public final class OracleTest {
 
     public static void main(String[] args) {
         OracleTest test = new OracleTest();
-        for (int i = 0; i < 60000; i++) {
+        for (int i = 0; i < 90000; i++) {
             test.compare(test.rawCode());
             test.compare(test.someSections());
         }
@@ -101,6 +101,11 @@ public final class OracleTest {
 
     private void compare(String code) {
         CellFormatter x = new CellFormatter();
+        if (random.nextBoolean()) {
+            // What is compiled from an older code must leave no trace.
+            Check.recompile(x, someSections());
+            x.erase();
+        }
         Check.feedAll(x, code);
         Oracle oracle = new Oracle(code);
         Check.due("compile of " + code, x.compile(), oracle.answer);
@@ -113,7 +118,7 @@ public final class OracleTest {
             return;
         }
         good++;
-        for (int i = 0; i < 6; i++) {
+        for (int i = 0; i < 4; i++) {
             boolean is1904 = random.nextBoolean();
             x.calendar(is1904);
             long units = value();
