@@ -8,6 +8,7 @@ public final class CalendarTest {
 
     public static void main(String[] args) {
         firstDaysOf1900();
+        theDayThatNeverWas();
         weekdaysOf1900();
         everyDay(false);
         firstDaysOf1904();
@@ -53,6 +54,24 @@ public final class CalendarTest {
         isDay(x, 73109, 2100, 2, 28);
         isDay(x, 73110, 2100, 3, 1);
         Check.due("before the first", x.date(0, 0), CellFormatter.BAD);
+    }
+
+    /** Asks for each part first on a new object, and then behind a day with other parts. */
+    private static void theDayThatNeverWas() {
+        Check.sentence("8, 11 and 12", "60 is 29 February 1900 (which never was)");
+        int[] want = {1900, 2, 29, 4};
+        for (int part = 0; part < 4; part++) {
+            CellFormatter x = new CellFormatter();
+            Check.due("date(60, " + part + ")", x.date(60, part), want[part]);
+            x.date(LAST_1900, part);
+            Check.due("date(60, " + part + ") behind the last day", x.date(60, part), want[part]);
+        }
+        Check.shows("yyyy yy m mm mmm d dd ddd", "60", "1900 00 2 02 Feb 29 29 Wed");
+        CellFormatter x = showingDays(false);
+        isDay(x, LAST_1900, 9999, 12, 31);
+        isDay(x, 60, 1900, 2, 29);
+        x.calendar(true);
+        isDay(x, 60, 1904, 3, 1);
     }
 
     private static void weekdaysOf1900() {

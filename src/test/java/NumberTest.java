@@ -1,3 +1,6 @@
+import java.math.BigDecimal;
+import java.math.RoundingMode;
+
 /** The sentences of the terms on what NUMBER sections show; a test for each. Promise 8. */
 public final class NumberTest {
     public static void main(String[] args) {
@@ -5,6 +8,7 @@ public final class NumberTest {
         percentsAndScalings();
         rounding();
         roundingAtEveryDecimal();
+        roundingAtEveryScale();
         exponentChoice();
         exponentOfZero();
         exponentGrows();
@@ -97,6 +101,25 @@ public final class NumberTest {
         }
         for (int decimals = 6; decimals <= 38; decimals++) {
             Check.shows("0." + "0".repeat(decimals), "7.000001", "7.000001" + "0".repeat(decimals - 6));
+        }
+    }
+
+    /** Takes every number of scaling commas with zero to two percents and some decimals. */
+    private static void roundingAtEveryScale() {
+        Check.sentence("8", "Without an exponent, x is ROUNDED to as many decimals as there are fraction places "
+            + "(a half goes up).");
+        String[] numbers = {"0.000001", "0.5", "500", "499.999999", "500000000", "999999999.999999", "1000000000"};
+        for (int commas = 0; commas <= 32; commas++) {
+            for (int percents = 0; percents <= 2; percents++) {
+                for (int decimals = 1; decimals <= 4; decimals++) {
+                    String code = "0" + ",".repeat(commas) + "." + "0".repeat(decimals) + "%".repeat(percents);
+                    for (String number : numbers) {
+                        BigDecimal x = new BigDecimal(number).scaleByPowerOfTen(2 * percents - 3 * commas);
+                        String digits = x.setScale(decimals, RoundingMode.HALF_UP).toPlainString();
+                        Check.shows(code, number, digits + "%".repeat(percents));
+                    }
+                }
+            }
         }
     }
 
