@@ -57,7 +57,8 @@ public final class DateTest {
     private static void roundedToSeconds() {
         Check.sentence("8", "The value is rounded to seconds (a day has 86400; a half goes up): "
             + "days and seconds of the day.");
-        // No value is a whole number of millionths and a half second, so a half is only met from both sides.
+        // A unit is 54/625 of a second, so no value is a whole number of seconds and a half: that would ask for
+        // 108 units = 625 (2 k + 1), even and odd. The half is met from both sides.
         Check.shows("[s]", "0", "0");
         Check.shows("[s]", "0.000005", "0");
         Check.shows("[s]", "0.000006", "1");

@@ -1,7 +1,9 @@
 import java.math.BigDecimal;
 import java.math.BigInteger;
 import java.math.RoundingMode;
+import java.time.DateTimeException;
 import java.time.LocalDate;
+import java.time.temporal.ChronoUnit;
 import java.util.ArrayList;
 import java.util.List;
 import java.util.regex.Matcher;
@@ -287,8 +289,7 @@ final class Oracle {
             meanings.add(meaning(fields, i));
         }
         boolean naming = meanings.stream().anyMatch(m -> m.matches("[ymd].*"));
-        long last = is1904 ? 2957003 : 2958465;
-        if (days > last || naming && !is1904 && days == 0) {
+        if (days > lastSerial(is1904) || naming && !is1904 && days == 0) {
             return null;
         }
         boolean twelve = meanings.contains("AM/PM");
@@ -315,21 +316,19 @@ final class Oracle {
         int days = (int) (total / 86400);
         int hour = (int) (total / 3600 % 24);
         int shownHour = !twelve ? hour : hour % 12 == 0 ? 12 : hour % 12;
-        boolean never = !is1904 && days == 60;
-        LocalDate date = is1904 ? LocalDate.of(1904, 1, 1).plusDays(days)
-            : days < 60 ? LocalDate.of(1899, 12, 31).plusDays(days) : LocalDate.of(1899, 12, 30).plusDays(days);
-        int month = never ? 2 : date.getMonthValue();
-        int day = never ? 29 : date.getDayOfMonth();
-        int weekday = is1904 ? date.getDayOfWeek().getValue() % 7 : Math.floorMod(days - 1, 7);
+        int year = partOf(days, 0, is1904);
+        int month = partOf(days, 1, is1904);
+        int day = partOf(days, 2, is1904);
+        int weekday = partOf(days, 3, is1904);
         return switch (meaning) {
-            case "yyyy" -> String.format("%04d", date.getYear());
-            case "yy" -> String.format("%02d", date.getYear() % 100);
+            case "yyyy" -> String.format("%04d", year);
+            case "yy" -> String.format("%02d", year % 100);
             case "m" -> "" + month;
             case "mm" -> String.format("%02d", month);
             case "mmm" -> MONTHS[month - 1];
             case "d" -> "" + day;
             case "dd" -> String.format("%02d", day);
-            case "ddd" -> WEEKDAYS[weekday];
+            case "ddd" -> WEEKDAYS[weekday - 1];
             case "h" -> "" + shownHour;
             case "hh" -> String.format("%02d", shownHour);
             case "n" -> "" + total / 60 % 60;
@@ -341,5 +340,43 @@ final class Oracle {
             case "[m]" -> "" + total / 60;
             default -> "" + total;
         };
+    }
+
+    static int lastSerial(boolean is1904) {
+        return is1904 ? 2957003 : 2958465;
+    }
+
+    /** Part 0 to 3 of a day as the method date answers it; the day before the first of 1900 has parts here too. */
+    private static int partOf(int serial, int part, boolean is1904) {
+        boolean never = !is1904 && serial == 60;
+        LocalDate date = is1904 ? LocalDate.of(1904, 1, 1).plusDays(serial)
+            : serial < 60 ? LocalDate.of(1899, 12, 31).plusDays(serial) : LocalDate.of(1899, 12, 30).plusDays(serial);
+        return switch (part) {
+            case 0 -> date.getYear();
+            case 1 -> never ? 2 : date.getMonthValue();
+            case 2 -> never ? 29 : date.getDayOfMonth();
+            default -> 1 + (is1904 ? date.getDayOfWeek().getValue() % 7 : Math.floorMod(serial - 1, 7));
+        };
+    }
+
+    static int date(int serial, int part, boolean is1904) {
+        boolean stands = serial >= (is1904 ? 0 : 1) && serial <= lastSerial(is1904) && part >= 0 && part <= 3;
+        return stands ? partOf(serial, part, is1904) : CellFormatter.BAD;
+    }
+
+    static int serial(int year, int month, int day, boolean is1904) {
+        LocalDate first = LocalDate.of(is1904 ? 1904 : 1900, 1, 1);
+        if (!is1904 && year == 1900 && month == 2 && day == 29) {
+            return 60;
+        }
+        if (year < first.getYear() || year > 9999) {
+            return CellFormatter.BAD;
+        }
+        try {
+            int past = (int) ChronoUnit.DAYS.between(first, LocalDate.of(year, month, day));
+            return is1904 ? past : past < 59 ? past + 1 : past + 2;
+        } catch (DateTimeException noSuchDay) {
+            return CellFormatter.BAD;
+        }
     }
 }
